@@ -637,7 +637,9 @@ public final class BentScreens {
 
     /** All that RULES may ask is measured first, so that the judging of a LINE goes no deeper. */
     private void measureAll() {
-        refreshLamps();
+        ways.refresh();
+        lamps.refreshAges();
+        lamps.refreshDamp();
         laws.refresh();
         sheet.refreshWorth();
         bend.layAsTold();
@@ -656,7 +658,9 @@ public final class BentScreens {
     }
 
     private void judgeLines() {
-        Arrays.fill(lineHolds, true);
+        for (int line = 0; line < lineHolds.length; line++) {
+            lineHolds[line] = true;
+        }
         for (int k = 0; k < told.ruleTests.size; k++) {
             int line = told.ruleTests.get(k, RulesText.OF_LINE);
             if (line >= 0 && line < lineHolds.length && !testHolds(k)) {
@@ -1738,9 +1742,11 @@ public final class BentScreens {
         private void findWays() {
             Arrays.fill(lineFlow, 0);
             Arrays.fill(railFlow, 0);
-            Arrays.fill(firstUsed, false);
-            Arrays.fill(lastOpen, false);
-            Arrays.fill(lastUsed, false);
+            for (int row = 0; row < Film.SIDE; row++) {
+                firstUsed[row] = false;
+                lastOpen[row] = false;
+                lastUsed[row] = false;
+            }
             most = 0;
             for (int row = 0; row < told.film.netRows; row++) {
                 lastOpen[row] = true;
@@ -2085,7 +2091,10 @@ public final class BentScreens {
 
     /** The SHEET cut: WORTH of each of its pieces, and THE PLAN. */
     private static final class Sheet {
+        static final int MOST_SIDE = 10;
         static final int SPANS = 55;
+        // by length, 0 to 10: how many spans within ten squares are shorter
+        private static final int[] SHORTER = {0, 0, 10, 19, 27, 34, 40, 45, 49, 52, 54};
         static final int MOST_PANELS = 100;
         static final int DEEPEST = 20;
         static final int PLAN_KIND = 0;
@@ -2114,55 +2123,59 @@ public final class BentScreens {
             }
             for (int wide = 1; wide <= film.sheetWide; wide++) {
                 for (int high = 1; high <= film.sheetHigh; high++) {
-                    for (int x = 0; x <= film.sheetWide - wide; x++) {
-                        for (int y = 0; y <= film.sheetHigh - high; y++) {
-                            worths[indexOf(x, y, wide, high)] = bestOf(x, y, wide, high);
-                        }
-                    }
+                    fillWorths(wide, high, worthOfSize(wide, high));
                 }
             }
             worthFresh = true;
         }
 
-        /** A span is a start and a length within ten squares; there are 55 of them. */
-        private static int indexOf(int x, int y, int wide, int high) {
-            int across = (wide - 1) * (22 - wide) / 2 + x;
-            int down = (high - 1) * (22 - high) / 2 + y;
-            boolean there = across >= 0 && across < SPANS && down >= 0 && down < SPANS;
-            return there ? across * SPANS + down : 0;
+        private void fillWorths(int wide, int high, int panel) {
+            for (int x = 0; x <= film.sheetWide - wide; x++) {
+                for (int y = 0; y <= film.sheetHigh - high; y++) {
+                    int asPanel = panel > 0 && !hasFlaw(x, y, wide, high) ? panel : 0;
+                    worths[pieceOf(x, y, wide, high)] = Math.max(asPanel, worthCut(x, y, wide, high));
+                }
+            }
+        }
+
+        /** A piece is a span across and a span down: a start and a length within ten squares, 55 of them each. */
+        private static int pieceOf(int x, int y, int wide, int high) {
+            boolean isAcross = x >= 0 && wide >= 1 && wide <= MOST_SIDE - x;
+            boolean isDown = y >= 0 && high >= 1 && high <= MOST_SIDE - y;
+            return isAcross && isDown ? (SHORTER[wide] + x) * SPANS + SHORTER[high] + y : 0;
         }
 
         int worthOf(int x, int y, int wide, int high) {
-            return worths[indexOf(x, y, wide, high)];
+            return worths[pieceOf(x, y, wide, high)];
         }
 
-        private int bestOf(int x, int y, int wide, int high) {
-            int best = worthAsPanel(x, y, wide, high);
+        /** The most that a cut of a piece makes; 0 if it can't be cut. The dearest loops, so they call little. */
+        private int worthCut(int x, int y, int wide, int high) {
+            int best = 0;
+            int down = SHORTER[high] + y;
             for (int at = 1; at < wide; at++) {
-                best = Math.max(best, worthUpright(x, y, wide, high, at));
+                int first = (SHORTER[at] + x) * SPANS + down;
+                int second = (SHORTER[wide - at] + x + at) * SPANS + down;
+                best = Math.max(best, worths[first] + worths[second]);
             }
+            int across = (SHORTER[wide] + x) * SPANS;
             for (int at = 1; at < high; at++) {
-                best = Math.max(best, worthAcross(x, y, wide, high, at));
+                int first = across + SHORTER[at] + y;
+                int second = across + SHORTER[high - at] + y + at;
+                best = Math.max(best, worths[first] + worths[second]);
             }
             return best;
         }
 
-        private int worthUpright(int x, int y, int wide, int high, int at) {
-            return worthOf(x, y, at, high) + worthOf(x + at, y, wide - at, high);
-        }
-
-        private int worthAcross(int x, int y, int wide, int high, int at) {
-            return worthOf(x, y, wide, at) + worthOf(x, y + at, wide, high - at);
-        }
-
-        private int worthAsPanel(int x, int y, int wide, int high) {
+        /** What a piece of such a size is WORTH as a PANEL, as long as it has no FLAW. */
+        private int worthOfSize(int wide, int high) {
             int best = 0;
             for (int kind = 0; kind < film.kinds.size; kind++) {
                 if (isAsLarge(kind, wide, high)) {
                     best = Math.max(best, film.kinds.get(kind, Film.WORTH));
                 }
             }
-            return best > 0 && hasFlaw(x, y, wide, high) ? 0 : best;
+            return best;
         }
 
         private boolean isAsLarge(int kind, int wide, int high) {
@@ -2196,19 +2209,19 @@ public final class BentScreens {
             if (worth == 0 || depth > DEEPEST) {
                 return;
             }
-            if (sheet.worthAsPanel(x, y, wide, high) == worth) {
+            if (sheet.worthOfSize(wide, high) == worth && !sheet.hasFlaw(x, y, wide, high)) {
                 sheet.planPanel(x, y, wide, high, worth);
                 return;
             }
             for (int at = 1; at < wide; at++) {
-                if (sheet.worthUpright(x, y, wide, high, at) == worth) {
+                if (sheet.worthOf(x, y, at, high) + sheet.worthOf(x + at, y, wide - at, high) == worth) {
                     planPiece(sheet, x, y, at, high, depth + 1);
                     planPiece(sheet, x + at, y, wide - at, high, depth + 1);
                     return;
                 }
             }
             for (int at = 1; at < high; at++) {
-                if (sheet.worthAcross(x, y, wide, high, at) == worth) {
+                if (sheet.worthOf(x, y, wide, at) + sheet.worthOf(x, y + at, wide, high - at) == worth) {
                     planPiece(sheet, x, y, wide, at, depth + 1);
                     planPiece(sheet, x, y + at, wide, high - at, depth + 1);
                     return;
