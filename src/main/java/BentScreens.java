@@ -15,6 +15,7 @@ public final class BentScreens {
     private static final int MOST_DAYS_WET = 200;
     private static final int MOST_YEARS = 30;
     private static final int MOST_SHIFT = 5;
+    private static final int MOST_MENDED = 10;
     private static final int MOST_WORTH_TOLD = 9999;
     private static final int DAYS_OF_A_YEAR = 365;
     private static final int WHOLE = 1000;
@@ -249,22 +250,23 @@ public final class BentScreens {
             return false;
         }
         told.cracks.put(crack, Told.CRACK_COST, cost);
-        ways.forget();
         return true;
     }
 
     public int mend(int what) {
-        if (what < 0 || what > 2 || told.cracksInView() > Ways.MOST_MENDED) {
+        if (told.cracksInView() > MOST_MENDED) {
             return NONE;
         }
-        ways.refreshMended();
+        int mended = cracksToMend();
         switch (what) {
             case 0:
-                return ways.mendedCost;
+                return costOf(mended);
             case 1:
-                return Integer.bitCount(ways.mendedSet);
+                return Integer.bitCount(mended);
+            case 2:
+                return mended;
             default:
-                return ways.mendedSet;
+                return NONE;
         }
     }
 
@@ -584,6 +586,30 @@ public final class BentScreens {
         return rail
                 ? hasPoint(row, column) && row + 1 < told.film.netRows
                 : hasPoint(row, column) && column + 1 < told.film.netColumns;
+    }
+
+    /**
+     * As many WAYS as ROWS need every LINE from each COLUMN to the next, and then each goes straight on: all
+     * LINES must lead, and no RAIL. So there is but one set, whatever it costs.
+     */
+    private int cracksToMend() {
+        int set = 0;
+        for (int k = 0; k < told.cracksInView() && k < MOST_MENDED; k++) {
+            if (told.cracks.get(k, Told.CRACK_RAIL) == 0) {
+                set |= 1 << k;
+            }
+        }
+        return set;
+    }
+
+    private int costOf(int set) {
+        int cost = 0;
+        for (int k = 0; k < told.cracks.size && k < MOST_MENDED; k++) {
+            if ((set >> k & 1) == 1) {
+                cost += told.cracks.get(k, Told.CRACK_COST);
+            }
+        }
+        return cost;
     }
 
     private void forgetFilm() {
@@ -1665,7 +1691,6 @@ public final class BentScreens {
         static final int RAIL = 1;
         static final int FIRST_LINE = 2;
         static final int LAST_LINE = 3;
-        static final int MOST_MENDED = 10;
 
         // how a POINT was come by
         private static final int BY_FIRST_LINE = 0;
@@ -1673,7 +1698,6 @@ public final class BentScreens {
         private static final int BACK = 2;
         private static final int DOWN = 3;
         private static final int UP = 4;
-        private static final int MOST_NARROWS = 64;
 
         final Told told;
         final boolean[] lineLeads = new boolean[Film.POINTS];
@@ -1685,15 +1709,9 @@ public final class BentScreens {
         final boolean[] lastUsed = new boolean[Film.SIDE];
         final int[] cameBy = new int[Film.POINTS];
         final int[] queue = new int[Film.POINTS];
-        final int[] narrowCracks = new int[MOST_NARROWS];
-        final int[] narrowNeeds = new int[MOST_NARROWS];
-        int narrows;
         int queued;
         int most;
-        int mendedCost;
-        int mendedSet;
         boolean fresh;
-        boolean mendedFresh;
 
         Ways(Told told) {
             this.told = told;
@@ -1701,19 +1719,17 @@ public final class BentScreens {
 
         void forget() {
             fresh = false;
-            mendedFresh = false;
         }
 
         void refresh() {
             if (!fresh) {
-                layNet(told.cracksInView(), 0);
+                layNet();
                 findWays();
                 fresh = true;
             }
         }
 
-        /** The net with the first so many CRACKS but those of a set. */
-        private void layNet(int seen, int mended) {
+        private void layNet() {
             Film film = told.film;
             for (int row = 0; row < Film.SIDE; row++) {
                 for (int column = 0; column < Film.SIDE; column++) {
@@ -1722,21 +1738,18 @@ public final class BentScreens {
                     railLeads[point] = row + 1 < film.netRows && column < film.netColumns;
                 }
             }
+            int seen = told.cracksInView();
             for (int k = 0; k < seen; k++) {
-                int point = crackPoint(k);
-                if ((mended >> k & 1) == 0) {
-                    if (told.cracks.get(k, Told.CRACK_RAIL) == 1) {
-                        railLeads[point] = false;
-                    } else {
-                        lineLeads[point] = false;
-                    }
+                int point = told.cracks.get(k, Told.CRACK_ROW) * Film.SIDE + told.cracks.get(k, Told.CRACK_COLUMN);
+                if (!isIn(point, 0, Film.POINTS - 1)) {
+                    continue;
+                }
+                if (told.cracks.get(k, Told.CRACK_RAIL) == 1) {
+                    railLeads[point] = false;
+                } else {
+                    lineLeads[point] = false;
                 }
             }
-        }
-
-        private int crackPoint(int k) {
-            int point = told.cracks.get(k, Told.CRACK_ROW) * Film.SIDE + told.cracks.get(k, Told.CRACK_COLUMN);
-            return isIn(point, 0, Film.POINTS - 1) ? point : 0;
         }
 
         private void findWays() {
@@ -1838,28 +1851,22 @@ public final class BentScreens {
             return point >= 0 && point < Film.POINTS && cameBy[point] != NONE;
         }
 
-        /** Whether a part, if it leads, goes from the BEGINNING's side of THE CUT to the other. */
-        private boolean crosses(int sort, int row, int column) {
-            int point = row * Film.SIDE + column;
-            switch (sort) {
-                case LINE:
-                    return isReached(point) && !isReached(point + 1);
-                case RAIL:
-                    return isReached(point) != isReached(point + Film.SIDE);
-                case FIRST_LINE:
-                    return !isReached(row * Film.SIDE);
-                default:
-                    return isReached(row * Film.SIDE + told.film.netColumns - 1);
-            }
-        }
-
+        /** Whether a part leads from the BEGINNING's side of THE CUT to the other. */
         boolean cuts(int sort, int row, int column) {
             int point = row * Film.SIDE + column;
             if (!isIn(point, 0, Film.POINTS - 1)) {
                 return false;
             }
-            boolean leads = sort == LINE ? lineLeads[point] : sort != RAIL || railLeads[point];
-            return leads && crosses(sort, row, column);
+            switch (sort) {
+                case LINE:
+                    return lineLeads[point] && isReached(point) && !isReached(point + 1);
+                case RAIL:
+                    return railLeads[point] && isReached(point) != isReached(point + Film.SIDE);
+                case FIRST_LINE:
+                    return !isReached(row * Film.SIDE);
+                default:
+                    return isReached(row * Film.SIDE + told.film.netColumns - 1);
+            }
         }
 
         int countCut(int sort) {
@@ -1873,77 +1880,6 @@ public final class BentScreens {
                 }
             }
             return parts;
-        }
-
-        /**
-         * Sets are gone through by their numbers. A set that does not feed all ROWS leaves a cut that is
-         * too narrow; every other set that mends too few CRACKS of that cut need not be tried.
-         */
-        void refreshMended() {
-            if (mendedFresh) {
-                return;
-            }
-            int seen = Math.min(told.cracksInView(), MOST_MENDED);
-            mendedSet = NONE;
-            narrows = 0;
-            for (int set = 0; set < 1 << seen; set++) {
-                int cost = costOf(set, seen);
-                if (isBetter(set, cost) && !isTooNarrow(set)) {
-                    layNet(seen, set);
-                    findWays();
-                    if (most == told.film.netRows) {
-                        mendedSet = set;
-                        mendedCost = cost;
-                    } else {
-                        noteNarrow(seen, set);
-                    }
-                }
-            }
-            fresh = false;
-            mendedFresh = true;
-        }
-
-        private int costOf(int set, int seen) {
-            int cost = 0;
-            for (int k = 0; k < seen; k++) {
-                if ((set >> k & 1) == 1) {
-                    cost += told.cracks.get(k, Told.CRACK_COST);
-                }
-            }
-            return cost;
-        }
-
-        private boolean isBetter(int set, int cost) {
-            if (mendedSet == NONE || cost < mendedCost) {
-                return true;
-            }
-            return cost == mendedCost && Integer.bitCount(set) < Integer.bitCount(mendedSet);
-        }
-
-        private boolean isTooNarrow(int set) {
-            for (int k = 0; k < narrows && k < MOST_NARROWS; k++) {
-                if (Integer.bitCount(set & narrowCracks[k]) < narrowNeeds[k]) {
-                    return true;
-                }
-            }
-            return false;
-        }
-
-        /** Of the cut that was found with a set: its CRACKS, and how many of them must be mended at least. */
-        private void noteNarrow(int seen, int set) {
-            if (narrows >= MOST_NARROWS) {
-                return;
-            }
-            int across = 0;
-            for (int k = 0; k < seen; k++) {
-                int sort = told.cracks.get(k, Told.CRACK_RAIL) == 1 ? RAIL : LINE;
-                if (crosses(sort, told.cracks.get(k, Told.CRACK_ROW), told.cracks.get(k, Told.CRACK_COLUMN))) {
-                    across |= 1 << k;
-                }
-            }
-            narrowCracks[narrows] = across;
-            narrowNeeds[narrows] = Integer.bitCount(across & set) + told.film.netRows - most;
-            narrows++;
         }
     }
 

@@ -126,6 +126,10 @@ public final class PromisesTest {
         faulty(4, true, "layer", 1, 5);
         faulty(4, true, "layer  \n", 1, 8);
         faulty(4, true, "net 1 1", 1, 7);
+        faulty(4, true, "layer 1 1 1", 1, 11);
+        faulty(4, true, "layer 1 1 1 net 1 1;", 1, 12);
+        faulty(4, true, "layer 1 1 net 1 1;", 1, 10);
+        faulty(4, true, "net 1 1 net 1 1;", 1, 8);
         faulty(4, true, "net 1 1 1;", 1, 8);
         faulty(4, true, "layer 1 1 1;", 1, 11);
         faulty(4, true, "layer 1 1 1 holds;", 1, 12);
@@ -151,6 +155,15 @@ public final class PromisesTest {
         faulty(4, true, "folds 1 0;", 2, 8);
         faulty(4, true, "panel 11 1 1;", 2, 6);
         faulty(4, true, "panel 1 0 1;", 2, 8);
+        faulty(4, true, "panel 1 11 1;", 2, 8);
+        faulty(4, true, "panel 1 1 0;", 2, 10);
+        faulty(4, true, "sheet 11 1;", 2, 6);
+        faulty(4, true, "sheet 1 0;", 2, 8);
+        faulty(4, true, "net 0 1;", 2, 4);
+        faulty(4, true, "net 1 7;", 2, 6);
+        faulty(4, true, "layer 100 1 1 hold;", 2, 6);
+        faulty(4, true, "layer 1 0 1 hold;", 2, 8);
+        faulty(4, true, "layer 1 1 0 hold;", 2, 10);
         faulty(4, true, "panel 1 1 1000;", 2, 10);
         faulty(4, true, "sheet 10 10;flaw 10 0;", 2, 17);
         faulty(4, true, "sheet 10 10;flaw 0 10;", 2, 19);
@@ -383,6 +396,8 @@ public final class PromisesTest {
         due(20, "row 2", x.fed(2), false);
         due(20, "none", x.fed(3), false);
         due(20, "none", x.fed(-1), false);
+        due(20, "none behind six", Texts.withFilm("net 6 6;").fed(6), false);
+        due(20, "the sixth", Texts.withFilm("net 6 6;").fed(5), true);
         due(21, "how many", x.cut(0), 2);
         due(21, "lines", x.cut(1), 2);
         due(21, "rails", x.cut(2), 0);
@@ -477,10 +492,19 @@ public final class PromisesTest {
         x.crack(false, 0, 1);
         x.crack(false, 1, 1);
         x.crack(true, 1, 1);
-        // From column 1 of row 0 the only way to row 2 would be back along a line.
+        // Nothing leads to column 1 of row 2.
         due(19, "no way back", x.most(), 0);
         due(21, "nothing to cut", x.cut(0), 0);
         due(20, "no row", x.fed(0), false);
+        BentScreens back = Texts.withFilm("net 3 4;");
+        int[][] cracks = {{0, 0, 2}, {0, 1, 0}, {0, 1, 2}, {0, 2, 0}, {1, 0, 0}, {1, 0, 1}, {1, 0, 3}, {1, 1, 0},
+            {1, 1, 2}, {1, 1, 3}};
+        for (int[] c : cracks) {
+            back.crack(c[0] == 1, c[1], c[2]);
+        }
+        // Along row 0, down in column 2, back along row 1, down in column 1: a line would be gone the wrong way.
+        due(19, "no way back", back.most(), 0);
+        due(22, "a line the wrong way is not cut", back.inCut(0, 1, 1), false);
         BentScreens up = Texts.withFilm("net 2 2;");
         up.crack(false, 0, 0);
         due(20, "up by a rail", up.fed(0), true);
@@ -631,7 +655,8 @@ public final class PromisesTest {
         due(34, "cost", x.mend(0), 2);
         due(34, "how many", x.mend(1), 2);
         due(34, "set", x.mend(2), 5);
-        due(33, "dearer", x.cost(0, 99), true);
+        due(33, "dearest", x.cost(0, 99), true);
+        due(33, "cheapest", x.cost(2, 1), true);
         due(34, "cost", x.mend(0), 100);
         due(33, "none", x.cost(3, 5), false);
         due(33, "none", x.cost(-1, 5), false);
@@ -640,7 +665,6 @@ public final class PromisesTest {
         due(34, "it stays", x.mend(0), 100);
         due(34, "another what", x.mend(3), NONE);
         due(34, "another what", x.mend(-1), NONE);
-        // Row 1 may go up by the rail of column 1 or 2, but only mending its line feeds both rows.
         BentScreens early = Texts.withFilm("net 1 3;");
         early.crack(false, 0, 1);
         early.day(2);
@@ -657,7 +681,7 @@ public final class PromisesTest {
         y.crack(false, 1, 0);
         y.crack(true, 0, 0);
         due(34, "lines alone", y.mend(2), 3);
-        // Of several sets that cost the same, the fewest; then the least number.
+        // All lines, and no rail, whatever they cost.
         BentScreens z = Texts.withFilm("net 6 6;");
         for (int row = 0; row < 5; row++) {
             z.crack(false, row, row);
@@ -721,6 +745,14 @@ public final class PromisesTest {
         due(38, "no hands", new BentScreens().promise(0), 30);
         BentScreens some = Texts.withFilm("layer 1 1 1 slide;layer 4 1 1 hold;life 9 9;");
         some.hand(5, 1, 200);
+        BentScreens late = Texts.withFilm("layer 2 1 10 hold;life 0 999;folds 9 9;");
+        late.hand(1, 1, 1);
+        due(38, "behind 2 years", late.promise(0), 2);
+        BentScreens last = Texts.withFilm("layer 2 1 10 hold;life 0 999;life 99 1;folds 1 700;");
+        for (int k = 0; k < 3; k++) {
+            last.hand(1, 1 + k, 9999);
+        }
+        due(38, "one by one", last.promise(0) * 10000 + last.promise(334) * 100 + last.promise(667), 102);
         due(36, "some layer is enough", some.broken(0, 1), true);
     }
 
@@ -757,6 +789,14 @@ public final class PromisesTest {
         due(39, "by two", even.lasts(2), 10);
         due(39, "by one", even.lasts(1), 9);
         due(40, "best", even.shift(), 2);
+        BentScreens narrow = new BentScreens();
+        narrow.picture(0, 0, 0, 0, 1, 999);
+        narrow.picture(0, 0, 0, 0, 1, 112);
+        due(39, "one column: 9 * 1111 is 9999", narrow.lasts(4), 9);
+        due(25, "one lamp", narrow.unlike(), 0);
+        narrow.picture(0, 0, 0, 0, 9, 999);
+        due(25, "all at 0", narrow.unlike(), 0);
+        due(24, "all at 0", narrow.left(0, 0), 0);
     }
 
     private static void tests() {
@@ -821,6 +861,22 @@ public final class PromisesTest {
         x.test(5, 999999, 2, 1);
         due(45, "one alone bars all", x.quarrel(0), 6);
         due(45, "one alone bars all", x.quarrel(1), NONE);
+        BentScreens twelve = new BentScreens();
+        for (int k = 0; k < 10; k++) {
+            twelve.test(1, 1, 1, 0);
+        }
+        twelve.test(9, 200, 1, 0);
+        twelve.test(9, 120, 1, 1);
+        due(45, "the last two of twelve", twelve.quarrel(0) * 100 + twelve.quarrel(1), 1011);
+        due(45, "no more", twelve.quarrel(2), NONE);
+        BentScreens first = new BentScreens();
+        first.test(1, 9, 1, 1);
+        due(42, "the first law alone", first.kept(), 1);
+        due(43, "the first law alone", first.law(0), 1);
+        due(44, "the first law alone", first.span(1, true), 12);
+        due(45, "the first law alone", first.quarrel(0), NONE);
+        due(41, "it is barred, too", first.test(1, 12, 1, 0), 1);
+        due(45, "both are needed", first.quarrel(1), 1);
         BentScreens three = new BentScreens();
         // a from 17 on; b is 0 by a crack at speed 1; but at speed 1 none cracked at 800.
         three.test(9, 200, 1, 0);
@@ -885,6 +941,12 @@ public final class PromisesTest {
         faulty(47, false, "bar 5;", 1, 4);
         faulty(47, false, "bars;", 1, 0);
         faulty(47, false, "if :bar;", 1, 3);
+        faulty(47, false, "if bar;", 1, 3);
+        faulty(47, false, "if rows<:bar;", 1, 8);
+        faulty(47, false, "if rows 3:bar;", 1, 8);
+        faulty(47, false, "if whole and rows bar;", 1, 18);
+        faulty(47, false, "price bar;", 1, 6);
+        faulty(47, false, "bar bar;", 1, 4);
         faulty(47, false, "if whole bar;", 1, 9);
         faulty(47, false, "if whole=1:bar;", 1, 8);
         faulty(47, false, "if not not whole:bar;", 1, 7);
