@@ -107,6 +107,14 @@ public final class PromisesTest {
         Texts.put(x, "what");
         due(4, "a fault", x.film(), NONE);
         due(4, "the tape is empty, too", x.end(1), NONE);
+        Texts.put(x, "nets");
+        x.end(3);
+        due(4, "what was cut off is gone", x.film(), NONE);
+        due(5, "what was cut off is gone", x.fault(1), 3);
+        Texts.put(x, "net 1 15;");
+        x.end(7);
+        due(4, "what was cut off is gone", x.film(), NONE);
+        due(5, "what was cut off is gone", x.fault(1), 7);
         due(5, "another what", x.fault(2), NONE);
         due(5, "another what", x.fault(-1), NONE);
         Texts.put(x, "net 1 1;");
@@ -143,6 +151,11 @@ public final class PromisesTest {
         faulty(4, true, "net 1 1;;", 1, 8);
         faulty(4, true, "net\t1 1;", 1, 3);
         faulty(4, true, "NET 1 1;", 1, 0);
+        faulty(4, true, "let 1 1;", 1, 0);
+        faulty(4, true, "netz 1 1;", 1, 0);
+        faulty(4, true, "anet 1 1;", 1, 0);
+        faulty(4, true, "a".repeat(500), 1, 0);
+        faulty(4, true, "1".repeat(500), 1, 0);
         faulty(4, true, "bar;", 1, 0);
         // 2: a NUMBER that can't be
         faulty(4, true, "layer 0 0 0 hold;", 2, 6);
@@ -185,6 +198,7 @@ public final class PromisesTest {
         // 4: a flaw that is not on the sheet
         faulty(4, true, "flaw 0 0;flaw 0 1;", 4, 9);
         faulty(4, true, "flaw 2 1;flaw 1 2;flaw 3 0;sheet 3 2;", 4, 9);
+        faulty(4, true, "flaw 5 5;life 1 1;", 4, 0);
         faulty(4, true, "flaw 5 5;net 7 7;", 2, 13);
         faulty(4, true, "flaw 5 5;net 1 1;net 1 1;", 3, 17);
     }
@@ -1002,6 +1016,8 @@ public final class PromisesTest {
         }
         Texts.film(x, "layer 1 1 1 hold;layer 1 1 1 slide;");
         due(49, "the last one's glue does not count", holds(x, "slides"), false);
+        Texts.film(x, "layer 1 1 1 slide;layer 1 1 1 hold;");
+        due(49, "the first one's counts", holds(x, "slides"), true);
         Texts.film(x, "sheet 10 10;panel 1 1 999;");
         due(49, "9999 at most", holds(x, "worth=9999"), true);
         due(49, "no layers", holds(x, "least=0"), true);
