@@ -1780,22 +1780,22 @@ public final class BentScreens {
                 return false;
             }
             lastUsed[point / Film.SIDE] = true;
-            for (int k = 0; k < Film.POINTS; k++) {
+            for (int k = 0; k < Film.POINTS && isReached(point); k++) {
                 switch (cameBy[point]) {
                     case ONWARD:
                         point--;
-                        lineFlow[point]++;
+                        turnFlow(lineFlow, point, 1);
                         break;
                     case BACK:
-                        lineFlow[point]--;
+                        turnFlow(lineFlow, point, -1);
                         point++;
                         break;
                     case DOWN:
                         point -= Film.SIDE;
-                        railFlow[point]++;
+                        turnFlow(railFlow, point, 1);
                         break;
                     case UP:
-                        railFlow[point]--;
+                        turnFlow(railFlow, point, -1);
                         point += Film.SIDE;
                         break;
                     default:
@@ -1804,6 +1804,12 @@ public final class BentScreens {
                 }
             }
             return true;
+        }
+
+        private static void turnFlow(int[] flow, int point, int by) {
+            if (point >= 0 && point < flow.length) {
+                flow[point] += by;
+            }
         }
 
         /** Goes from the BEGINNING wherever one WAY more could; the POINT where it gets to the END. */

@@ -422,10 +422,14 @@ final class FilmEdges extends Edges {
         due("one first line", film("net 1 6;").most(), 1);
         int[][] line = {{0, 0, 0}};
         due("one line", cracked("net 2 2;", line).most(), 1);
-        int[][] rail = {{0, 2, 0}, {0, 0, 1}, {0, 1, 1}};
-        due("one rail", cracked("net 3 3;", rail).most(), 1);
-        int[][] railUp = {{0, 0, 0}, {0, 1, 1}, {0, 2, 1}};
-        due("one rail upward", cracked("net 3 3;", railUp).most(), 1);
+        // Two rows of LINES come to column 1, two others lead on, and one RAIL is between them.
+        int[][] rail = {{0, 2, 0}, {0, 3, 0}, {0, 0, 1}, {0, 1, 1}};
+        due("one rail", cracked("net 4 3;", rail).most(), 1);
+        int[][] railUp = {{0, 0, 0}, {0, 1, 0}, {0, 2, 1}, {0, 3, 1}};
+        x = cracked("net 4 3;", railUp);
+        due("one rail upward", x.most(), 1);
+        x.view(0);
+        due("asked again", x.most(), 1);
         due("none", cracked("net 1 2;", line).most(), 0);
         // Both go through the POINT in the middle.
         int[][] point = {{0, 2, 0}, {0, 0, 1}};
@@ -485,6 +489,10 @@ final class FilmEdges extends Edges {
         x = cracked("net 3 3;", rail);
         dueCut("the rail that is left", x, 1, 0, 1, 0, 0);
         due("the rail that is left", x.inCut(1, 1, 1), true);
+        int[][] railUp = {{0, 0, 0}, {0, 1, 1}, {0, 2, 1}, {1, 1, 0}};
+        x = cracked("net 3 3;", railUp);
+        dueCut("the rail upward that is left", x, 1, 0, 1, 0, 0);
+        due("the rail upward that is left", x.inCut(1, 0, 1), true);
         // Row 1 ends at once: its one POINT stays joined, and of row 0 none.
         int[][] first = {{0, 1, 0}, {1, 0, 0}};
         x = cracked("net 2 2;", first);
@@ -495,6 +503,24 @@ final class FilmEdges extends Edges {
         int[][] two = {{0, 0, 0}, {0, 0, 1}};
         x = cracked("net 2 3;", two);
         due("the nearer line", x.inCut(0, 1, 0), true);
+        // All POINTS before the last COLUMN are joined, whichever of both the WAY goes by.
+        int[][] joined = {{0, 1, 1}, {1, 0, 0}};
+        dueCut("no first line", cracked("net 2 3;", joined), 1, 1, 0, 0, 0);
+        int[][] lowest = {{0, 5, 0}};
+        dueCut("six rows, two columns", cracked("net 6 2;", lowest), 5, 5, 0, 0, 0);
+        dueCut("six rows, six columns", cracked("net 6 6;", lowest), 5, 5, 0, 0, 0);
+        int[][] many = {{0, 0, 0}, {0, 0, 2}, {0, 2, 0}, {0, 2, 1}, {0, 4, 1}, {0, 5, 2}, {1, 2, 0}, {1, 3, 0}, {1, 3, 2},
+            {1, 4, 0}};
+        BentScreens y = cracked("net 6 4;", many);
+        dueCut("a line and three first lines", y, 4, 1, 0, 3, 0);
+        due("that line", y.inCut(0, 1, 0), true);
+        dueFed("a line and three first lines", y, 1, 1, 1, 1, 0, 0);
+        int[][] twice = {{0, 0, 2}, {0, 1, 2}, {0, 2, 0}, {0, 2, 3}, {0, 4, 0}, {1, 0, 1}, {1, 0, 3}, {1, 1, 3}, {1, 2, 1},
+            {1, 3, 2}, {1, 3, 3}};
+        y = cracked("net 5 5;", twice);
+        dueCut("two lines of a row", y, 2, 2, 0, 0, 0);
+        due("the first one", y.inCut(0, 3, 0), true);
+        due("the fourth one", y.inCut(0, 3, 3), true);
         due("not the further line", x.inCut(0, 1, 1), false);
     }
 

@@ -67,6 +67,7 @@ final class Look {
             }
             add(x.tired(layer, 1));
             add(x.tired(layer, 2));
+            add(x.cracks(layer));
         }
         add(x.least());
         add(x.order(0));

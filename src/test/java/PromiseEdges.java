@@ -346,6 +346,10 @@ final class PromiseEdges extends Edges {
         BentScreens x = film("layer 2 1 9 slide;layer 4 1 9 hold;life 0 3;life 10 1;folds 1 200;folds 1 400;folds 1 500;");
         // STRETCH of the first one is below 10, of the second one 10 in the first of FOLDS.
         due("the first layer", x.cracks(0), 2);
+        due("asked again", x.cracks(0), 2);
+        due("its part", x.tired(0, 3), 1000);
+        due("asked behind its part", x.cracks(0), 2);
+        due("its part, asked again", x.tired(0, 1), 333);
         due("the second layer", x.cracks(1), 0);
 
         says("NONE: in none, or there is none such.");

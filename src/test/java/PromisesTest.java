@@ -904,29 +904,28 @@ public final class PromisesTest {
         due(45, "no more", three.quarrel(3), NONE);
     }
 
+    /** How many LAWS one film keeps that was folded so often. */
+    private static int keptBehind(int speed, int folds, int cracked) {
+        BentScreens x = new BentScreens();
+        x.test(speed, folds, 1, cracked);
+        return x.kept();
+    }
+
+    private static int greaterBehind(int speed, int folds) {
+        return Math.max(keptBehind(speed, folds, 1), keptBehind(speed, folds, 0));
+    }
+
     private static void nextTest() {
         BentScreens x = new BentScreens();
         int speed = x.next(0);
         int folds = x.next(1);
         int number = x.next(2);
-        x.image(0);
-        x.test(speed, folds, 1, 1);
-        int cracked = x.kept();
-        x.again(0);
-        x.test(speed, folds, 1, 0);
-        int not = x.kept();
-        x.again(0);
-        due(46, "the greater of both", number, Math.max(cracked, not));
+        due(46, "the greater of both", number, greaterBehind(speed, folds));
         int least = 1000;
         int first = 0;
         for (int v = 9; v >= 1; v--) {
             for (int j = 14; j >= 0; j--) {
-                x.test(v, 10 << j, 1, 1);
-                int greater = x.kept();
-                x.again(0);
-                x.test(v, 10 << j, 1, 0);
-                greater = Math.max(greater, x.kept());
-                x.again(0);
+                int greater = greaterBehind(v, 10 << j);
                 if (greater <= least) {
                     least = greater;
                     first = v * 1000000 + (10 << j);

@@ -335,6 +335,7 @@ final class RefusedEdges extends Edges {
         says("as FILM: how many LINES.");
         atOnce("a film", x -> Texts.film(x, "net 5 4;sheet 2 2;panel 1 1 3;layer 9 8 7 hold;layer 3 9 1 hold;"));
         atOnce("no film", x -> Texts.film(x, ""));
+        atOnce("the same sheet without panels", x -> Texts.film(x, "sheet 4 3;net 3 4;"));
     }
 
     private void atOnce(String what, Call call) {

@@ -248,6 +248,8 @@ final class TextEdges extends Edges {
         faulty("sheet 3 2;flaw 3 1;", 4, 10);
         faulty("sheet 3 2;flaw 2 2;", 4, 10);
         faulty("flaw 2 1;flaw 1 2;flaw 3 0;sheet 3 2;", 4, 9);
+        faulty(" flaw 0 1;layer 1 1 1 hold;life 1 1;folds 1 1;panel 1 1 1;", 4, 1);
+        faulty("layer 1 1 1 hold;life 1 1;flaw 0 1;", 4, 26);
         faulty("flaw 9 9;sheet 9 10;", 4, 0);
         faulty("flaw 9 9;sheet 10 9;", 4, 0);
         taken("flaw 9 9;sheet 10 10;");
